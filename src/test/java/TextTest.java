@@ -4,6 +4,11 @@ public final class TextTest {
         newObject();
         typing();
         clearing();
+        wholeTexts();
+        errorsInAtoms();
+        errorsInTexts();
+        errorsInLiterals();
+        errorsWhileTyping();
         Checks.end();
     }
 
@@ -44,5 +49,137 @@ public final class TextTest {
         Checks.due("clearText", x.clearText(), 5);
         Checks.due("clearText again", x.clearText(), 0);
         Checks.due("textError then", x.textError(), 0);
+    }
+
+    private static void dueError(String text, int want) {
+        Checks.due("textError of " + text, Checks.error(text), want);
+    }
+
+    private static void wholeTexts() {
+        String[] texts = {
+            "a(1).", "z(99).", "a(00).", "a(b).", "a(X).", "a(1,2,3).", "a(X,b,s[X]).", "a(b[c[d[1]]]).",
+            "a(b[c[d[e]]]).", "a(b[c[d[X]]],b[c[d[1]]]).", "a(1):b(1).", "a(X):b(X),c(X),d(X),e(X).", ":b(1).",
+            "?a(X):b(X).", "a(1):b(1)^5.", "a(1):b(1)^55,c(1).", "a(1):!b(1).", "a(1):2*b(X).", "a(1):22*b(X).",
+            ":X<Y.", ":X=Y.", ":X#Y.", ":X~1+2.", ":X~Y*12.", ":X~1-Y.", ":X~12+Y,b(1).", ":X~n(a(Y)).",
+            ":X~s(Y;a(Y)).", ":X~m(Y;a(Y)).", ":X~x(Y;a(Y)).", ":X~x(Y;x(1,2,Y)).", "?n(s):n(s),!s(m),2*m(x).",
+        };
+        for (String text : texts) {
+            dueError(text, Stratahold.NONE);
+            dueError(text.substring(0, text.length() - 1), text.length() - 1);
+            dueError(text + "a", text.length());
+            dueError(text + ".", text.length());
+        }
+    }
+
+    private static void errorsInAtoms() {
+        dueError("", 0);
+        dueError("a", 1);
+        dueError("a(", 2);
+        dueError("A(1).", 0);
+        dueError("1(1).", 0);
+        dueError("a1).", 1);
+        dueError("a(1.", 3);
+        dueError("a().", 2);
+        dueError("a(,1).", 2);
+        dueError("a(1,).", 4);
+        dueError("a(1,2,3,4).", 7);
+        dueError("a(1,2,3;", 7);
+        dueError("a(123).", 4);
+        dueError("a(1b).", 3);
+        dueError("a(bb).", 3);
+        dueError("a(XY).", 3);
+        dueError("a(X1).", 3);
+        dueError("a(B[1]).", 3);
+        dueError("a(1[2]).", 3);
+        dueError("a(b[1).", 5);
+        dueError("a(b[]).", 4);
+        dueError("a(b(1)).", 3);
+        dueError("a(b[1,2]).", 5);
+        dueError("a(b[c[d[e[1]]]]).", 9);
+        dueError("a(1,b[c[d[e[X]]]]).", 11);
+        dueError("a(b[c[d[e]]]]).", 12);
+        dueError("a(!1).", 2);
+    }
+
+    private static void errorsInTexts() {
+        dueError("a(1)", 4);
+        dueError("a(1),", 4);
+        dueError("a(1)^5.", 4);
+        dueError("a(1):.", 5);
+        dueError("a(1)::b(1).", 5);
+        dueError("a(1):b(1):c(1).", 9);
+        dueError(":.", 1);
+        dueError(":", 1);
+        dueError("?", 1);
+        dueError("?a(1).", 5);
+        dueError("?:b(1).", 1);
+        dueError("??a(1):b(1).", 1);
+        dueError("!a(1).", 0);
+        dueError("2*a(1).", 0);
+        dueError(".", 0);
+        dueError("a(1):b(1),.", 10);
+        dueError("a(1):b(1),c(1),d(1),e(1),", 24);
+        dueError("a(1):b(1),c(1),d(1),e(1),f(1).", 24);
+        dueError(":X<Y,X<Y,X<Y,X<Y,X<Y.", 16);
+    }
+
+    private static void errorsInLiterals() {
+        dueError("a(1):b(1)^.", 10);
+        dueError("a(1):b(1)^123.", 12);
+        dueError("a(1):b(1)^X.", 10);
+        dueError("a(1):b(1)^2^3.", 11);
+        dueError("a(1):!b(1)^5.", 10);
+        dueError("a(1):2*b(1)^5.", 11);
+        dueError("a(1):!!b(1).", 6);
+        dueError("a(1):!2*b(1).", 6);
+        dueError("a(1):2*!b(1).", 7);
+        dueError("a(1):2b(X).", 6);
+        dueError("a(1):123*b(X).", 7);
+        dueError("a(1):X*b(X).", 6);
+        dueError(":X=1.", 3);
+        dueError(":X=a.", 3);
+        dueError(":1<X.", 2);
+        dueError(":X>Y.", 2);
+        dueError(":X<=Y.", 3);
+        dueError(":X.", 2);
+        dueError(":X(1).", 2);
+        dueError(":X~", 3);
+        dueError(":X~1.", 4);
+        dueError(":X~1/2.", 4);
+        dueError(":X~123+1.", 5);
+        dueError(":X~1+123.", 7);
+        dueError(":X~1+.", 5);
+        dueError(":X~1+a.", 5);
+        dueError(":X~1+2+3.", 6);
+        dueError(":X~+1.", 3);
+        dueError(":1~1+1.", 2);
+        dueError(":X~k+1.", 3);
+        dueError(":X~a(Y).", 3);
+        dueError(":X~n+1.", 4);
+        dueError(":X~n(Y;a(Y)).", 5);
+        dueError(":X~n(a(Y).", 9);
+        dueError(":X~n(!a(Y)).", 5);
+        dueError(":X~s(a(Y)).", 5);
+        dueError(":X~s(1;a(Y)).", 5);
+        dueError(":X~s(Y,a(Y)).", 6);
+        dueError(":X~m(Y;a(Y).", 11);
+        dueError(":X~x(Y;2*a(Y)).", 7);
+        dueError(":X~s(Y;a(Y)^2).", 11);
+    }
+
+    private static void errorsWhileTyping() {
+        Stratahold x = new Stratahold();
+        String text = "a(X):b(X),!c(X).";
+        for (int i = 0; i < text.length(); i++) {
+            Checks.due("textError after " + i + " signs", x.textError(), i);
+            x.type(text.charAt(i));
+        }
+        Checks.due("textError of the whole text", x.textError(), Stratahold.NONE);
+        x.type('?');
+        x.type('!');
+        Checks.due("textError of the first sign too much", x.textError(), text.length());
+        Stratahold y = new Stratahold();
+        Checks.write(y, "a(s[s[s[1]]],s[s[s[2]]],s[s[s[3]]]):b(X,Y,Z),c(XX),b(X,Y,Z).");
+        Checks.due("textError of 60 signs", y.textError(), 48);
     }
 }
