@@ -367,7 +367,7 @@ public final class Stratahold {
         } else {
             trial.append(rule);
         }
-        return tried();
+        return together ? 0 : maker.build(trial, now, spare, false);
     }
 
     private int tried() {
@@ -735,7 +735,7 @@ public final class Stratahold {
                 return 0;
             }
             at++;
-            return Terms.open(signs[at - 1] - 'A', 0);
+            return 'A' - signs[at - 1] - 1;
         }
 
         private int number() {
@@ -751,44 +751,36 @@ public final class Stratahold {
         }
 
         private static int comparison(char sign) {
-            switch (sign) {
-                case '<':
-                    return Rule.LESS;
-                case '=':
-                    return Rule.SAME;
-                case '#':
-                    return Rule.OTHER;
-                default:
-                    return NONE;
+            if (sign == '<') {
+                return Rule.LESS;
             }
+            if (sign == '=') {
+                return Rule.SAME;
+            }
+            return sign == '#' ? Rule.OTHER : NONE;
         }
 
         private static int counting(char sign) {
-            switch (sign) {
-                case 'n':
-                    return Rule.COUNT;
-                case 's':
-                    return Rule.SUM;
-                case 'm':
-                    return Rule.LEAST;
-                case 'x':
-                    return Rule.GREATEST;
-                default:
-                    return NONE;
+            if (sign == 'n') {
+                return Rule.COUNT;
             }
+            if (sign == 's') {
+                return Rule.SUM;
+            }
+            if (sign == 'm') {
+                return Rule.LEAST;
+            }
+            return sign == 'x' ? Rule.GREATEST : NONE;
         }
 
         private static int calculation(char sign) {
-            switch (sign) {
-                case '+':
-                    return Rule.PLUS;
-                case '-':
-                    return Rule.MINUS;
-                case '*':
-                    return Rule.TIMES;
-                default:
-                    return NONE;
+            if (sign == '+') {
+                return Rule.PLUS;
             }
+            if (sign == '-') {
+                return Rule.MINUS;
+            }
+            return sign == '*' ? Rule.TIMES : NONE;
         }
 
         /** The sign at the place that is read; 0 behind the end and behind an error. */
@@ -1012,7 +1004,9 @@ public final class Stratahold {
             for (int sweep = 0; sweep < MOST_SWEEPS && top <= MOST_RULES + 1; sweep++) {
                 boolean raised = more != null && lift(more);
                 for (int i = 0; i < state.count; i++) {
-                    raised |= lift(state.rules[i]);
+                    if (lift(state.rules[i])) {
+                        raised = true;
+                    }
                 }
                 if (!raised) {
                     return true;
@@ -1057,7 +1051,6 @@ public final class Stratahold {
         private Rule rule = new Rule();
         private Table table = new Table(0);
         private Table counted = table;
-        private Asker asker;
         private int end;
         private int countedEnd;
         private int now;
@@ -1065,6 +1058,8 @@ public final class Stratahold {
         private int level;
         private int deepest;
         private boolean fresh;
+        private boolean asking;
+        private boolean paused;
 
         /** Only the facts of the table ahead of end are seen, so that what comes meanwhile is not. */
         void start(Rule rule, Table table, int end, int now) {
@@ -1074,7 +1069,8 @@ public final class Stratahold {
             this.now = now;
             counted = table;
             countedEnd = this.end;
-            asker = null;
+            asking = false;
+            paused = false;
             Arrays.fill(values, Terms.UNBOUND);
             valued = 0;
             level = 0;
@@ -1082,11 +1078,19 @@ public final class Stratahold {
             fresh = true;
         }
 
-        /** Atoms are asked as goals then; what is told and what is counted is looked up in the model. */
-        void askThrough(Asker asker, Table model) {
-            this.asker = asker;
+        /**
+         * Stops ahead of each atom then, so that it can be asked as a goal; what is told and what is
+         * counted is looked up in the model.
+         */
+        void stopAtAtoms(Table model) {
+            asking = true;
             counted = model;
             countedEnd = model.count;
+        }
+
+        /** The atom ahead of which the walk has stopped; null if it has come through the body. */
+        int[] atomAhead() {
+            return paused ? rule.atoms[level + 1] : null;
         }
 
         boolean headIs(int[] fact) {
@@ -1098,18 +1102,25 @@ public final class Stratahold {
             return deepest;
         }
 
-        /** Goes on to the next values for which the body holds; false if there are none. */
+        /** Goes on to the next values for which the body holds (or to a stop); false if there are none. */
         boolean forward() {
+            boolean resumed = paused;
+            paused = false;
             if (fresh) {
                 fresh = false;
                 enter(0);
-            } else {
+            } else if (!resumed) {
                 level--;
             }
             for (int step = 0; step < MANY && level >= 0 && level < rule.count; step++) {
                 undo(marks[level]);
                 int[] literal = rule.literals[level];
                 int op = literal[Rule.OP];
+                if (asking && !resumed && op == Rule.ATOM && cursors[level] == 0) {
+                    paused = true;
+                    return true;
+                }
+                resumed = false;
                 boolean holds = false;
                 if (op <= Rule.RECENT) {
                     holds = nextFact(op == Rule.RECENT, literal[Rule.NUMBER]);
@@ -1143,9 +1154,6 @@ public final class Stratahold {
 
         private boolean nextFact(boolean recent, int age) {
             int[] atom = rule.atoms[level + 1];
-            if (asker != null && !recent && cursors[level] == 0) {
-                asker.ask(atom, this);
-            }
             Table from = recent ? counted : table;
             int last = recent ? countedEnd : end;
             while (cursors[level] < last) {
@@ -1235,7 +1243,7 @@ public final class Stratahold {
         }
 
         private int valueOf(int part) {
-            return part < 0 ? values[Terms.variableOf(part)] : part;
+            return part < 0 ? values[(-1 - part) % VARIABLES] : part;
         }
 
         /** With a head whose values are given a target may have its value already. */
@@ -1243,7 +1251,7 @@ public final class Stratahold {
             if (target >= 0 || value < 0) {
                 return false;
             }
-            int variable = Terms.variableOf(target);
+            int variable = (-1 - target) % VARIABLES;
             if (values[variable] != Terms.UNBOUND) {
                 return values[variable] == value;
             }
@@ -1540,7 +1548,7 @@ public final class Stratahold {
             goals.empty();
             proven.empty();
             walk.start(question, proven, 0, now);
-            ask(question.atoms[0], walk);
+            ask(question.atoms[0]);
             int before = 0;
             for (int round = 0; round < MANY && goals.count + proven.count > before; round++) {
                 before = goals.count + proven.count;
@@ -1553,8 +1561,8 @@ public final class Stratahold {
         }
 
         /** Makes a goal of an atom with the values that it has now, if it is none yet. */
-        void ask(int[] atom, Walk asking) {
-            if (!asking.write(atom, goal) || goals.find(goal) != NONE) {
+        private void ask(int[] atom) {
+            if (!walk.write(atom, goal) || goals.find(goal) != NONE) {
                 return;
             }
             if (goals.count >= MOST_SPECIAL) {
@@ -1591,12 +1599,15 @@ public final class Stratahold {
                     continue;
                 }
                 walk.start(rule, proven, proven.count, now);
-                walk.askThrough(this, model);
+                walk.stopAtAtoms(model);
                 if (!walk.headIs(asked)) {
                     continue;
                 }
                 for (int step = 0; step < MANY && walk.forward(); step++) {
-                    if (walk.write(rule.atoms[0], fact) && proven.find(fact) == NONE) {
+                    int[] ahead = walk.atomAhead();
+                    if (ahead != null) {
+                        ask(ahead);
+                    } else if (walk.write(rule.atoms[0], fact) && proven.find(fact) == NONE) {
                         proven.put(fact);
                     }
                 }
@@ -1693,7 +1704,9 @@ public final class Stratahold {
             for (int pass = 0; cheaper && pass < MANY; pass++) {
                 cheaper = false;
                 for (int i = 0; i < model.count; i++) {
-                    cheaper |= costs[i] > 1 && isCheaperNow(state, model, now, i);
+                    if (costs[i] > 1 && isCheaperNow(state, model, now, i)) {
+                        cheaper = true;
+                    }
                 }
             }
         }
