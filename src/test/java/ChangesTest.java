@@ -79,6 +79,7 @@ public final class ChangesTest {
             "a(N):N~x(X;b(X)),X<N.", "a(N):c(X),N~s(X;b(Y)).", "a(N):M~n(b(X)).", "a(1):N~n(b(N)).",
             "a(1):b(X),b(Y),b(Z),b(W).", "a(1):b(X)^1,b(Y),b(Z),b(W)^2.", ":b(X),b(X),b(X),b(X).",
             "a(X):1*b(Y),!c(Y),d(X).", "a(X):d(X),N~n(b(Y)),M~n(b(Y)).",
+            "a(A).", "a(A):b(B).", ":!a(A).", ":A~1+1,A~1+1.", ":b(B),A<B.",
         };
         for (String text : unsafe) {
             Checks.due("refusal of " + text, Checks.refusal(x, text), 2);
@@ -157,6 +158,17 @@ public final class ChangesTest {
         Checks.due("36 candidates", Checks.refusal(y, "?p(X,Y):a(X),a(Y)."), 6);
         Checks.due("36 instances, 6 candidates", Checks.refusal(y, "?p(X,X):a(X),a(Y)."), 0);
         Checks.due("30 candidates", Checks.refusal(y, "?p(X,Y):a(X),a(Y),X#Y."), 0);
+        Stratahold c = Checks.with("a(0). a(20). a(40). ?p(Z):a(X),b(Y),Z~X+Y.");
+        for (int i = 0; i < 10; i++) {
+            Checks.add(c, "b(" + i + ").");
+        }
+        Checks.due("33 candidates of one group", Checks.refusal(c, "b(10)."), 6);
+        Checks.due("30 and one", Checks.refusal(c, "b(59)."), 0);
+        Stratahold d = Checks.with("a(0). a(20). a(40). a(60). ?p(Z):a(X),b(Y),Z~X+Y.");
+        for (int i = 0; i < 8; i++) {
+            Checks.due("up to 32 candidates", Checks.add(d, "b(" + i + ")."), i + 5);
+        }
+        Checks.due("36 candidates of one group", Checks.refusal(d, "b(9)."), 6);
         Checks.add(y, "b(1,1).");
         Checks.add(y, "b(2,2).");
         Checks.add(y, ":c(1).");

@@ -103,6 +103,8 @@ public final class ModelTest {
     private static void atoms() {
         Stratahold x = Checks.with("e(1,2). e(2,3). e(3,1). e(3,3). t(X,Z):e(X,Y),e(Y,Z). l(X):e(X,X). o(X):e(1,X). k(5):e(3,Y).");
         Checks.dueModel("joins", x, "e(1,2) e(2,3) e(3,1) e(3,3) k(5) l(3) o(2) t(1,3) t(2,1) t(2,3) t(3,1) t(3,2) t(3,3)");
+        Stratahold a = Checks.with("e(1,2). e(2,3). t(A,Z):e(A,B),e(B,Z). u(A):e(B,A),A#B. v(s[A]):e(A,Z).");
+        Checks.dueModel("the first variable", a, "e(1,2) e(2,3) t(1,3) u(2) u(3) v(s[1]) v(s[2])");
         Stratahold y = Checks.with("a(1). a(b). a(s[1]). a(s[b]). a(t[s[2]]). p(X):a(s[X]). q(X):a(t[X]). r(X,X):a(t[s[X]]). u(s[b]):a(b).");
         Checks.dueModel("made ones in bodies", y, "a(1) a(b) a(s[1]) a(s[b]) a(t[s[2]]) p(1) p(b) q(s[2]) r(2,2) u(s[b])");
     }
@@ -166,6 +168,8 @@ public final class ModelTest {
     private static void calculations() {
         Stratahold x = Checks.with("a(3). a(40). a(b). a(s[1]). p(Y):a(X),Y~X+50. m(Y):a(X),Y~X-3. n(Y):a(X),Y~3-X. t(Y):a(X),Y~X*X.");
         Checks.dueModel("with letters and others", x, "a(3) a(40) a(b) a(s[1]) m(0) m(37) n(0) p(53) p(90) t(9)");
+        Stratahold a = Checks.with("a(a). p(Y):a(X),Y~X-9. q(Y):a(X),Y~0*X. r(Y):a(X),Y~99-X. s(Y):Y~s(X;a(X)).");
+        Checks.dueModel("with the first letter", a, "a(a) s(0)");
         Stratahold y = Checks.with("a(1):Z~99+0. b(Z):Z~99+1. c(Z):Z~0-0. d(Z):Z~0-1. e(Z):Z~9*11. f(Z):Z~10*10. g(Z):Z~49+50. h(Z):Z~2*49.");
         Checks.dueModel("the edges", y, "a(1) c(0) e(99) g(99) h(98)");
         Stratahold u = Checks.with("i(0). m(29). i(Y):i(X),m(Z),Y~X+7,Y<Z.");
@@ -258,6 +262,8 @@ public final class ModelTest {
         Stratahold x = Checks.with("e(1,2). e(2,1). e(3,3). e(b,b). e(s[1],1). e(s[s[2]],2). e(1). e(s[1],s[1]).");
         dueMatches(x, "e(X,Y).", 7);
         dueMatches(x, "e(X,X).", 3);
+        dueMatches(x, "e(A,A).", 3);
+        dueMatches(x, "e(A,Z).", 7);
         dueMatches(x, "e(X).", 1);
         dueMatches(x, "e(X,Y,Z).", 0);
         dueMatches(x, "e(1,Y).", 1);

@@ -91,14 +91,14 @@ final class Texts {
             String literal;
             int kind = below(100);
             if (kind < 50 || i == 0 && kind < 80) {
-                literal = atom("XYZ", 85) + (chance(12) ? "^" + below(chance(80) ? 4 : 100) : "");
+                literal = atom("AYZ", 85) + (chance(12) ? "^" + below(chance(80) ? 4 : 100) : "");
                 bound = with(bound, literal);
             } else if (kind < 60) {
                 literal = "!" + atom(bound, 80);
             } else if (kind < 70) {
                 literal = below(4) + "*" + atom(bound + "U", 80);
             } else if (kind < 80) {
-                literal = chance(97) && !bound.isEmpty() ? one(bound) + "<=#".charAt(below(3)) + one(bound) : "X<Y";
+                literal = chance(97) && !bound.isEmpty() ? one(bound) + "<=#".charAt(below(3)) + one(bound) : "A<Y";
             } else if (kind < 90) {
                 literal = "V~" + part(bound) + "+-*".charAt(below(3)) + part(bound);
                 bound = with(bound, "V");
@@ -143,11 +143,11 @@ final class Texts {
     String text() {
         int kind = below(100);
         String s = kind < 45 ? fact() : kind < 72 ? rule("") : kind < 82 ? constraint() : kind < 95 ? rule("?")
-                : atom("XY", 50) + ".";
+                : atom("AY", 50) + ".";
         return chance(6) ? damaged(s) : s;
     }
 
     String question() {
-        return chance(85) ? atom("XY", 50) + "." : text();
+        return chance(85) ? atom("AY", 50) + "." : text();
     }
 }
