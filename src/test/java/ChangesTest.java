@@ -163,7 +163,8 @@ public final class ChangesTest {
             Checks.add(c, "b(" + i + ").");
         }
         Checks.due("33 candidates of one group", Checks.refusal(c, "b(10)."), 6);
-        Checks.due("30 and one", Checks.refusal(c, "b(59)."), 0);
+        Checks.due("30 and three", Checks.refusal(c, "b(59)."), 6);
+        Checks.due("30 and two", Checks.refusal(c, "b(60)."), 0);
         Stratahold d = Checks.with("a(0). a(20). a(40). a(60). ?p(Z):a(X),b(Y),Z~X+Y.");
         for (int i = 0; i < 8; i++) {
             Checks.due("up to 32 candidates", Checks.add(d, "b(" + i + ")."), i + 5);
