@@ -68,6 +68,9 @@ public final class OracleTest {
         int steps = 20 + texts.below(60);
         boolean modules = texts.chance(20);
         boolean facts = texts.chance(15);
+        if (texts.chance(15)) {
+            crowd();
+        }
         for (int i = 0; i < steps && wrong < 20; i++) {
             int kind = texts.below(100);
             if (kind < 60) {
@@ -101,6 +104,15 @@ public final class OracleTest {
             }
         }
         look();
+    }
+
+    /** Tells many facts, so that the limits are near. */
+    private void crowd() {
+        int many = 10 + texts.below(20);
+        for (int i = 0; i < many; i++) {
+            write(texts.chance(50) ? texts.letters.charAt(0) + "(" + texts.below(40) + ")." : texts.fact());
+            same("add(0)", () -> x.add(0), () -> y.add(0));
+        }
     }
 
     private static int nothing(Runnable call) {

@@ -6,15 +6,17 @@ final class Texts {
     private final String values;
     /** How many in a hundred terms are made ones. */
     private final int made;
+    private final boolean classic;
 
     Texts(long seed) {
         this.seed = seed * 2862933555777941757L + 3037000493L;
-        String all = "abcdefgh";
+        String all = chance(30) ? "tegachbu" : "abcdefgh";
         letters = all.substring(0, 2 + below(6));
         for (int i = 0; i < 26; i++) {
             arities[i] = 1 + (chance(40) ? 1 : 0) + (chance(10) ? 1 : 0);
         }
         values = chance(30) ? "01" : chance(50) ? "012b" : "01234567";
+        classic = chance(30);
         made = chance(30) ? 30 : chance(50) ? 5 : 0;
     }
 
@@ -120,6 +122,20 @@ final class Texts {
         return begin + atom(bound, 80) + ":" + body[0] + ".";
     }
 
+    private static final String[] KNOWN = {
+        "t(X,Y):e(X,Y).", "t(X,Z):e(X,Y),t(Y,Z).", "t(X,Z):t(X,Y),t(Y,Z).", "u(X):a(X),!b(X).", ":u(2).",
+        "?h(X,Y):e(X,Y).", ":h(X,Y),h(Z,Y),X<Z.", "g(s[X]):g(X).", "g(X):g(s[X]).", "r(X):a(X)^1.", "n(C):C~n(a(X)).",
+        "s(V):V~s(X;a(X)).", "m(V):V~m(X;a(X)).", "x(V):V~x(X;a(X)).", "w(X):a(X),2*g(Y).", "a(X):e(Y,X),2*a(Z).",
+        "a(Y):a(X),Y~X+1,Y<Z.", "a(Y):a(X),e(X,Z),Y~X*2.", "?c(X):a(X).", ":c(X),!e(X,X).", ":e(X,Y),h(X,Z),h(Y,Z).",
+        "b(X):c(X).", "?b(X):c(Y),e(Y,X).", "b(Y):a(X),Y~X-1.", "?h(X,Y):a(X),b(Y).", ":3*t(X,Y).", ":c(1).", ":h(1,2).",
+        "t(X,s[Y]):t(X,Y),a(X).", "b(X):e(X,Y)^2,a(Y)^0.", "k(X,N):a(X),N~n(e(X,Y)).", "e(1,2).", "e(2,3).", "e(3,1).",
+        "a(1).", "a(2).", "g(1).", "b(2).", "a(b).", "e(1,3).", "e(2,1).", "a(3).",
+    };
+
+    String known() {
+        return KNOWN[below(KNOWN.length)];
+    }
+
     String constraint() {
         return ":" + body().split(" ")[0] + ".";
     }
@@ -141,6 +157,9 @@ final class Texts {
     }
 
     String text() {
+        if (classic && chance(80)) {
+            return known();
+        }
         int kind = below(100);
         String s = kind < 45 ? fact() : kind < 72 ? rule("") : kind < 82 ? constraint() : kind < 95 ? rule("?")
                 : atom("AY", 50) + ".";
