@@ -25,6 +25,7 @@ public final class Stratahold {
     private static final int MOST_CANDIDATES = 32;
     private static final int MOST_WAYS = 12;
     private static final int PREDICATES = 104;
+    private static final int LETTERS = 26;
     private static final int VARIABLES = 26;
 
     private static final int IN_ERROR = 1;
@@ -44,7 +45,7 @@ public final class Stratahold {
     private final Maker maker = new Maker();
     private final Asker asker = new Asker();
     private final Reasoner reasoner = new Reasoner();
-    private final int[] owners = new int[VARIABLES];
+    private final int[] owners = new int[LETTERS];
     private final State kept = new State();
     private State current = new State();
     private State trial = new State();
@@ -1404,23 +1405,16 @@ public final class Stratahold {
             }
             candidates.sort();
             int first = 0;
-            while (first < candidates.count) {
-                int behind = endOfGroup(first);
-                if (!pick(first, behind - first, stratum)) {
-                    return false;
+            for (int behind = 1; behind <= candidates.count; behind++) {
+                if (behind == candidates.count
+                        || !isOneGroup(candidates.rows[first], candidates.rows[behind])) {
+                    if (!pick(first, behind - first, stratum)) {
+                        return false;
+                    }
+                    first = behind;
                 }
-                first = behind;
             }
             return true;
-        }
-
-        private int endOfGroup(int first) {
-            int[] one = candidates.rows[first];
-            int behind = first + 1;
-            while (behind < candidates.count && isOneGroup(one, candidates.rows[behind])) {
-                behind++;
-            }
-            return behind;
         }
 
         private static boolean isOneGroup(int[] one, int[] other) {
