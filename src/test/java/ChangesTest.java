@@ -29,11 +29,6 @@ public final class ChangesTest {
         Checks.end();
     }
 
-    private static long nothing(Runnable call) {
-        call.run();
-        return 0;
-    }
-
     private static Stratahold counted(int facts) {
         Stratahold x = new Stratahold();
         for (int i = 0; i < facts; i++) {
@@ -354,9 +349,9 @@ public final class ChangesTest {
     private static void together() {
         Stratahold x = Checks.with("a(1). b(X):a(X). :c(X),!d(X).");
         Checks.dueThrow("commit ahead of begin", STATE, x::commit);
-        Checks.dueThrow("rollBack ahead of begin", STATE, () -> nothing(x::rollBack));
+        Checks.dueThrow("rollBack ahead of begin", STATE, () -> Checks.nothing(x::rollBack));
         x.begin();
-        Checks.dueThrow("begin again", STATE, () -> nothing(x::begin));
+        Checks.dueThrow("begin again", STATE, () -> Checks.nothing(x::begin));
         Checks.due("what a constraint forbids", Checks.refusal(x, "c(1)."), 0);
         Checks.due("is told", Checks.add(x, "c(1)."), 2);
         Checks.dueModel("the model is that of begin", x, "a(1) b(1)");
@@ -376,7 +371,7 @@ public final class ChangesTest {
         Checks.due("commit", x.commit(), 0);
         Checks.dueModel("then", x, "c(1) d(1)");
         Checks.dueThrow("commit again", STATE, x::commit);
-        Checks.dueThrow("rollBack then", STATE, () -> nothing(x::rollBack));
+        Checks.dueThrow("rollBack then", STATE, () -> Checks.nothing(x::rollBack));
         x.begin();
         Checks.due("commit of nothing", x.commit(), 0);
         Checks.dueModel("then", x, "c(1) d(1)");
@@ -463,7 +458,7 @@ public final class ChangesTest {
     private static void owning() {
         Stratahold x = Checks.with("a(1). r(X):a(X). ?s(X):a(X).");
         for (char letter : new char[] {'A', '`', '{', '0', 0, 65535}) {
-            Checks.dueThrow("own " + (int) letter, ARGUMENT, () -> nothing(() -> x.own(letter)));
+            Checks.dueThrow("own " + (int) letter, ARGUMENT, () -> Checks.nothing(() -> x.own(letter)));
         }
         for (char letter : "arsz".toCharArray()) {
             x.own(letter);
@@ -471,7 +466,7 @@ public final class ChangesTest {
         }
         Checks.due("the own one", Checks.add(x, "a(2)."), 2);
         x.speak(1);
-        Checks.dueThrow("own what another owns", STATE, () -> nothing(() -> x.own('a')));
+        Checks.dueThrow("own what another owns", STATE, () -> Checks.nothing(() -> x.own('a')));
         for (String text : new String[] {"a(3).", "a(1,2).", "r(X):b(X).", "?s(X):b(X).", "a(1)."}) {
             Checks.due("refusal of " + text, Checks.refusal(x, text), 4);
             Checks.dueThrow("add of " + text, STATE, () -> x.add(0));
@@ -483,7 +478,7 @@ public final class ChangesTest {
         Checks.due("what no one owns", Checks.add(x, "b(1)."), 3);
         x.own('b');
         x.speak(0);
-        Checks.dueThrow("own what the other owns", STATE, () -> nothing(() -> x.own('b')));
+        Checks.dueThrow("own what the other owns", STATE, () -> Checks.nothing(() -> x.own('b')));
         Checks.due("what the other owns", Checks.refusal(x, "b(2)."), 4);
         Checks.dueModel("all can be read", x, "a(1) a(2) b(1) r(1) r(2) s(1)");
     }

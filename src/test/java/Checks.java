@@ -1,8 +1,14 @@
+import java.io.IOException;
+import java.nio.charset.StandardCharsets;
+import java.nio.file.Files;
+import java.nio.file.Path;
+
 /** What the tests share: typing texts, and comparing answers and exceptions with what is due. */
 final class Checks {
-    static final int THREW_NOTHING = 0;
     private static int wrong = 0;
     private static int asked = 0;
+    private static String document = "";
+    private static String words = "";
 
     private Checks() {
     }
@@ -11,11 +17,42 @@ final class Checks {
         long answer();
     }
 
+    /** What the checks that come next are about: words that have to stand in the document. */
+    static void says(String sentence) {
+        asked++;
+        words = sentence;
+        if (document.isEmpty()) {
+            document = withoutBreaks(Path.of("../shared/DOC.md"));
+        }
+        if (!document.contains(sentence)) {
+            complain("it is not in the document");
+        }
+    }
+
+    private static String withoutBreaks(Path path) {
+        try {
+            return Files.readString(path, StandardCharsets.UTF_8).replaceAll("\\s+", " ");
+        } catch (IOException e) {
+            return "no document: " + e;
+        }
+    }
+
+    private static void complain(String line) {
+        wrong++;
+        System.out.println(words.isEmpty() ? line : "\"" + words + "\": " + line);
+    }
+
     static void due(String what, long got, long want) {
         asked++;
         if (got != want) {
-            wrong++;
-            System.out.println(what + " answered " + got + ", due is " + want);
+            complain(what + " answered " + got + ", due is " + want);
+        }
+    }
+
+    static void due(String what, String got, String want) {
+        asked++;
+        if (!got.equals(want)) {
+            complain(what + " answered " + got + ", due is " + want);
         }
     }
 
@@ -35,8 +72,7 @@ final class Checks {
             }
             got = e.toString();
         }
-        wrong++;
-        System.out.println(what + " gave " + got + ", due is " + want.getSimpleName());
+        complain(what + " gave " + got + ", due is " + want.getSimpleName());
     }
 
     /** Replaces the text. */
@@ -54,6 +90,20 @@ final class Checks {
     static int add(Stratahold x, String text, int life) {
         write(x, text);
         return x.add(life);
+    }
+
+    static void dueRefusal(Stratahold x, String text, int want) {
+        due("refusal of " + text, refusal(x, text), want);
+    }
+
+    static void dueError(String text, int want) {
+        due("textError of " + text, error(text), want);
+    }
+
+    /** A method without an answer, as one with an answer. */
+    static long nothing(Runnable call) {
+        call.run();
+        return 0;
     }
 
     /** Adds texts that stand behind one another with blanks between them. */
@@ -135,8 +185,7 @@ final class Checks {
         asked++;
         String got = model(x);
         if (!got.equals(want)) {
-            wrong++;
-            System.out.println(what + " has the model " + got + ", due is " + want);
+            complain(what + " has the model " + got + ", due is " + want);
         }
         due(what + ", anew", x.factsAnew(), x.facts());
     }

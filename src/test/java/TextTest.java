@@ -51,10 +51,6 @@ public final class TextTest {
         Checks.due("textError then", x.textError(), 0);
     }
 
-    private static void dueError(String text, int want) {
-        Checks.due("textError of " + text, Checks.error(text), want);
-    }
-
     private static void wholeTexts() {
         String[] texts = {
             "a(1).", "z(99).", "a(00).", "a(b).", "a(X).", "a(1,2,3).", "a(X,b,s[X]).", "a(b[c[d[1]]]).",
@@ -64,107 +60,107 @@ public final class TextTest {
             ":X~s(Y;a(Y)).", ":X~m(Y;a(Y)).", ":X~x(Y;a(Y)).", ":X~x(Y;x(1,2,Y)).", "?n(s):n(s),!s(m),2*m(x).",
         };
         for (String text : texts) {
-            dueError(text, Stratahold.NONE);
-            dueError(text.substring(0, text.length() - 1), text.length() - 1);
-            dueError(text + "a", text.length());
-            dueError(text + ".", text.length());
+            Checks.dueError(text, Stratahold.NONE);
+            Checks.dueError(text.substring(0, text.length() - 1), text.length() - 1);
+            Checks.dueError(text + "a", text.length());
+            Checks.dueError(text + ".", text.length());
         }
     }
 
     private static void errorsInAtoms() {
-        dueError("", 0);
-        dueError("a", 1);
-        dueError("a(", 2);
-        dueError("A(1).", 0);
-        dueError("1(1).", 0);
-        dueError("a1).", 1);
-        dueError("a(1.", 3);
-        dueError("a().", 2);
-        dueError("a(,1).", 2);
-        dueError("a(1,).", 4);
-        dueError("a(1,2,3,4).", 7);
-        dueError("a(1,2,3;", 7);
-        dueError("a(123).", 4);
-        dueError("a(1b).", 3);
-        dueError("a(bb).", 3);
-        dueError("a(XY).", 3);
-        dueError("a(X1).", 3);
-        dueError("a(B[1]).", 3);
-        dueError("a(1[2]).", 3);
-        dueError("a(b[1).", 5);
-        dueError("a(b[]).", 4);
-        dueError("a(b(1)).", 3);
-        dueError("a(b[1,2]).", 5);
-        dueError("a(b[c[d[e[1]]]]).", 9);
-        dueError("a(1,b[c[d[e[X]]]]).", 11);
-        dueError("a(b[c[d[e]]]]).", 12);
-        dueError("a(!1).", 2);
+        Checks.dueError("", 0);
+        Checks.dueError("a", 1);
+        Checks.dueError("a(", 2);
+        Checks.dueError("A(1).", 0);
+        Checks.dueError("1(1).", 0);
+        Checks.dueError("a1).", 1);
+        Checks.dueError("a(1.", 3);
+        Checks.dueError("a().", 2);
+        Checks.dueError("a(,1).", 2);
+        Checks.dueError("a(1,).", 4);
+        Checks.dueError("a(1,2,3,4).", 7);
+        Checks.dueError("a(1,2,3;", 7);
+        Checks.dueError("a(123).", 4);
+        Checks.dueError("a(1b).", 3);
+        Checks.dueError("a(bb).", 3);
+        Checks.dueError("a(XY).", 3);
+        Checks.dueError("a(X1).", 3);
+        Checks.dueError("a(B[1]).", 3);
+        Checks.dueError("a(1[2]).", 3);
+        Checks.dueError("a(b[1).", 5);
+        Checks.dueError("a(b[]).", 4);
+        Checks.dueError("a(b(1)).", 3);
+        Checks.dueError("a(b[1,2]).", 5);
+        Checks.dueError("a(b[c[d[e[1]]]]).", 9);
+        Checks.dueError("a(1,b[c[d[e[X]]]]).", 11);
+        Checks.dueError("a(b[c[d[e]]]]).", 12);
+        Checks.dueError("a(!1).", 2);
     }
 
     private static void errorsInTexts() {
-        dueError("a(1)", 4);
-        dueError("a(1),", 4);
-        dueError("a(1)^5.", 4);
-        dueError("a(1):.", 5);
-        dueError("a(1)::b(1).", 5);
-        dueError("a(1):b(1):c(1).", 9);
-        dueError(":.", 1);
-        dueError(":", 1);
-        dueError("?", 1);
-        dueError("?a(1).", 5);
-        dueError("?:b(1).", 1);
-        dueError("??a(1):b(1).", 1);
-        dueError("!a(1).", 0);
-        dueError("2*a(1).", 0);
-        dueError(".", 0);
-        dueError("a(1):b(1),.", 10);
-        dueError("a(1):b(1),c(1),d(1),e(1),", 24);
-        dueError("a(1):b(1),c(1),d(1),e(1),f(1).", 24);
-        dueError(":X<Y,X<Y,X<Y,X<Y,X<Y.", 16);
+        Checks.dueError("a(1)", 4);
+        Checks.dueError("a(1),", 4);
+        Checks.dueError("a(1)^5.", 4);
+        Checks.dueError("a(1):.", 5);
+        Checks.dueError("a(1)::b(1).", 5);
+        Checks.dueError("a(1):b(1):c(1).", 9);
+        Checks.dueError(":.", 1);
+        Checks.dueError(":", 1);
+        Checks.dueError("?", 1);
+        Checks.dueError("?a(1).", 5);
+        Checks.dueError("?:b(1).", 1);
+        Checks.dueError("??a(1):b(1).", 1);
+        Checks.dueError("!a(1).", 0);
+        Checks.dueError("2*a(1).", 0);
+        Checks.dueError(".", 0);
+        Checks.dueError("a(1):b(1),.", 10);
+        Checks.dueError("a(1):b(1),c(1),d(1),e(1),", 24);
+        Checks.dueError("a(1):b(1),c(1),d(1),e(1),f(1).", 24);
+        Checks.dueError(":X<Y,X<Y,X<Y,X<Y,X<Y.", 16);
     }
 
     private static void errorsInLiterals() {
-        dueError("a(1):b(1)^.", 10);
-        dueError("a(1):b(1)^123.", 12);
-        dueError("a(1):b(1)^X.", 10);
-        dueError("a(1):b(1)^2^3.", 11);
-        dueError("a(1):!b(1)^5.", 10);
-        dueError("a(1):2*b(1)^5.", 11);
-        dueError("a(1):!!b(1).", 6);
-        dueError("a(1):!2*b(1).", 6);
-        dueError("a(1):2*!b(1).", 7);
-        dueError("a(1):2b(X).", 6);
-        dueError("a(1):123*b(X).", 7);
-        dueError("a(1):X*b(X).", 6);
-        dueError(":X=1.", 3);
-        dueError(":X=a.", 3);
-        dueError(":1<X.", 2);
-        dueError(":X>Y.", 2);
-        dueError(":X<=Y.", 3);
-        dueError(":X.", 2);
-        dueError(":X(1).", 2);
-        dueError(":X~", 3);
-        dueError(":X~1.", 4);
-        dueError(":X~1/2.", 4);
-        dueError(":X~123+1.", 5);
-        dueError(":X~1+123.", 7);
-        dueError(":X~1+.", 5);
-        dueError(":X~1+a.", 5);
-        dueError(":X~1+2+3.", 6);
-        dueError(":X~+1.", 3);
-        dueError(":1~1+1.", 2);
-        dueError(":X~k+1.", 3);
-        dueError(":X~a(Y).", 3);
-        dueError(":X~n+1.", 4);
-        dueError(":X~n(Y;a(Y)).", 5);
-        dueError(":X~n(a(Y).", 9);
-        dueError(":X~n(!a(Y)).", 5);
-        dueError(":X~s(a(Y)).", 5);
-        dueError(":X~s(1;a(Y)).", 5);
-        dueError(":X~s(Y,a(Y)).", 6);
-        dueError(":X~m(Y;a(Y).", 11);
-        dueError(":X~x(Y;2*a(Y)).", 7);
-        dueError(":X~s(Y;a(Y)^2).", 11);
+        Checks.dueError("a(1):b(1)^.", 10);
+        Checks.dueError("a(1):b(1)^123.", 12);
+        Checks.dueError("a(1):b(1)^X.", 10);
+        Checks.dueError("a(1):b(1)^2^3.", 11);
+        Checks.dueError("a(1):!b(1)^5.", 10);
+        Checks.dueError("a(1):2*b(1)^5.", 11);
+        Checks.dueError("a(1):!!b(1).", 6);
+        Checks.dueError("a(1):!2*b(1).", 6);
+        Checks.dueError("a(1):2*!b(1).", 7);
+        Checks.dueError("a(1):2b(X).", 6);
+        Checks.dueError("a(1):123*b(X).", 7);
+        Checks.dueError("a(1):X*b(X).", 6);
+        Checks.dueError(":X=1.", 3);
+        Checks.dueError(":X=a.", 3);
+        Checks.dueError(":1<X.", 2);
+        Checks.dueError(":X>Y.", 2);
+        Checks.dueError(":X<=Y.", 3);
+        Checks.dueError(":X.", 2);
+        Checks.dueError(":X(1).", 2);
+        Checks.dueError(":X~", 3);
+        Checks.dueError(":X~1.", 4);
+        Checks.dueError(":X~1/2.", 4);
+        Checks.dueError(":X~123+1.", 5);
+        Checks.dueError(":X~1+123.", 7);
+        Checks.dueError(":X~1+.", 5);
+        Checks.dueError(":X~1+a.", 5);
+        Checks.dueError(":X~1+2+3.", 6);
+        Checks.dueError(":X~+1.", 3);
+        Checks.dueError(":1~1+1.", 2);
+        Checks.dueError(":X~k+1.", 3);
+        Checks.dueError(":X~a(Y).", 3);
+        Checks.dueError(":X~n+1.", 4);
+        Checks.dueError(":X~n(Y;a(Y)).", 5);
+        Checks.dueError(":X~n(a(Y).", 9);
+        Checks.dueError(":X~n(!a(Y)).", 5);
+        Checks.dueError(":X~s(a(Y)).", 5);
+        Checks.dueError(":X~s(1;a(Y)).", 5);
+        Checks.dueError(":X~s(Y,a(Y)).", 6);
+        Checks.dueError(":X~m(Y;a(Y).", 11);
+        Checks.dueError(":X~x(Y;2*a(Y)).", 7);
+        Checks.dueError(":X~s(Y;a(Y)^2).", 11);
     }
 
     private static void errorsWhileTyping() {
