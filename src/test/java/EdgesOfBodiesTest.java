@@ -21,12 +21,23 @@ public final class EdgesOfBodiesTest {
         unsafeAtoms();
         restingPositively();
         restingStrictly();
+        longLoops();
         restingOfChoices();
         greatestStratum();
         Checks.end();
     }
 
     private static void atoms() {
+        Checks.says("- atom: some fact of the model is it.");
+        Stratahold none = Checks.with("b(1):a(1). c(1):a(X).");
+        Checks.dueModel("no fact", none, "");
+        Checks.add(none, "a(2).");
+        Checks.dueModel("a fact that is like one of them", none, "a(2) c(1)");
+        Checks.add(none, "a(1).");
+        Checks.dueModel("two facts", none, "a(1) a(2) b(1) c(1)");
+        Checks.says("A body holds for variables with values, literal by literal from the left;");
+        Stratahold order = Checks.with("k(1). k(2). b(Y):k(X),Y~X+1. c(Y):Y~1+1,k(Y). d(X,N):k(X),N~n(k(X)).");
+        Checks.dueModel("what is on the left has its value", order, "b(2) b(3) c(2) d(1,1) d(2,1) k(1) k(2)");
         Checks.says("a literal with variables that have no value yet gives them all values with which it holds:");
         Stratahold x = Checks.with("e(1,1). e(1,2). e(s[1],1). a(X,Y):e(X,Y). b(X):e(X,X). c(X):e(s[X],X). d(X):e(X,1),e(X,2).");
         Checks.dueModel("all values", x, "a(1,1) a(1,2) a(s[1],1) b(1) c(1) d(1) e(1,1) e(1,2) e(s[1],1)");
@@ -291,6 +302,19 @@ public final class EdgesOfBodiesTest {
             due(x, SAFE, "a(1):c(1).", "b(1):d(1).");
             x.drop(0);
             due(x, SAFE, "b(1):c(1).", "b(1):a(1).");
+        }
+    }
+
+    private static void longLoops() {
+        Checks.says("There are strata if no predicate rests on itself, over others, with a strict one among them.");
+        for (int strict = 0; strict < 12; strict++) {
+            Stratahold x = new Stratahold();
+            for (int i = 0; i < 11; i++) {
+                Checks.add(x, (char) ('b' + i) + "(1):" + (i == strict ? "!" : "") + (char) ('a' + i) + "(1).");
+            }
+            due(x, strict < 11 ? WITHOUT_STRATA : SAFE, "a(1):l(1).", "a(1):1*l(X).", "a(1):e(1),l(1)^1.");
+            due(x, WITHOUT_STRATA, "a(1):!l(1).", "?a(1):l(1).", "a(N):N~n(l(X)).", "l(1):!l(1).");
+            due(x, SAFE, "l(1):!a(1).", "a(1,1):!l(1).", ":l(1),a(1).", "?l(1):a(1).", "m(1):!l(1).");
         }
     }
 

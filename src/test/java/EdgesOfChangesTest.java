@@ -85,7 +85,8 @@ public final class EdgesOfChangesTest {
     }
 
     private static void refusals() {
-        Checks.says("Returns 1 to 8; 0 if it would not be.");
+        Checks.says("Returns why adding the text would be refused now; between begin() and the end of it, by 1 to 5 alone. "
+                + "Returns 1 to 8; 0 if it would not be.");
         Stratahold x = Checks.with("a(1). :z(1).");
         x.own('o');
         x.speak(3);
@@ -101,6 +102,14 @@ public final class EdgesOfChangesTest {
         Checks.dueRefusal(x, "b(1).", 5);
         Checks.dueRefusal(x, "b(X):a(X).", 6);
         Checks.dueRefusal(x, "b(X):a(X),!a(X).", 0);
+        x.begin();
+        Checks.dueRefusal(x, "b(X):a(X).", 0);
+        Checks.dueRefusal(x, ":a(X).", 0);
+        Checks.dueRefusal(x, "b(1).", 5);
+        Checks.dueRefusal(x, "b(1):!b(1).", 3);
+        x.rollBack();
+        Checks.dueRefusal(x, "b(X):a(X).", 6);
+        Checks.dueRefusal(x, ":a(X).", 7);
     }
 
     private static void livesOfAdd() {

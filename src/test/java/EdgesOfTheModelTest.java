@@ -199,6 +199,7 @@ public final class EdgesOfTheModelTest {
             }
         }
         Checks.dueRefusal(x, ":v(8).", 8);
+        Checks.says("that is, the first way, in this order, in which no constraint is broken, is the model.");
         Stratahold y = Checks.with("k(1). k(2). d(1,1). d(1,2). d(2,7). ?a(X):k(X). ?b(Y):a(X),d(X,Y). :a(1),b(Y).");
         Checks.dueModel("other groups behind it", y, "a(2) b(7) d(1,1) d(1,2) d(2,7) k(1) k(2)");
         Stratahold z = Checks.with("k(1). k(2). ?a(X):k(X). ?b(X):a(1),k(X). :a(1).");
@@ -405,6 +406,8 @@ public final class EdgesOfTheModelTest {
 
     /** Objects in which a text is refused for two reasons. */
     private static void pairsOfRefusals() {
+        Checks.says("A change is refused if its text has an error (1), is unsafe (2), if there would be no strata (3), "
+                + "if the predicate of its fact or head is owned by another module (4),");
         Checks.says("In this order.");
         Stratahold x = Checks.with("o(9):a(1). q(9):a(1). :z(1). :b(X),b(Y),X<Y. b(X):v(X). e(0). e(1). e(2). e(3).");
         x.own('o');
