@@ -157,11 +157,31 @@ public final class EdgesOfQuestionsTest {
         dueLike(x, "e(X).", 0);
         dueLike(x, "e(s[X],Y).", 1);
         dueLike(x, "e(s[s[X]],Y).", 0);
+        madeOnes();
         dueLike(x, "e(X,2).", 3);
         dueLike(new Stratahold(), "a(X).", 0);
         Stratahold full = numbered(16, "b(X):a(X).");
         dueLike(full, "b(X).", 16);
         dueLike(numbered(8, "a(s[X]):a(X)."), "a(X).", 32);
+    }
+
+    /** The first and the last letter, and the first and the last variable, around and in one another. */
+    private static void madeOnes() {
+        Stratahold x = Checks.with("e(a[1],a[1]). e(z[1],1). e(a[z[1]],1). e(z[a[1]],1). e(a[a[a[1]]],a[a[1]]). e(b[1],b[2]).");
+        for (String v : new String[] {"A", "B", "Y", "Z"}) {
+            dueLike(x, "e(a[" + v + "],C).", 3);
+            dueLike(x, "e(z[" + v + "],C).", 2);
+            dueLike(x, "e(b[" + v + "],C).", 1);
+            dueLike(x, "e(y[" + v + "],C).", 0);
+            dueLike(x, "e(a[z[" + v + "]]," + v + ").", 1);
+            dueLike(x, "e(z[a[" + v + "]]," + v + ").", 1);
+            dueLike(x, "e(a[" + v + "],a[" + v + "]).", 1);
+            dueLike(x, "e(a[" + v + "]," + v + ").", 1);
+            dueLike(x, "e(a[a[" + v + "]],C).", 1);
+            dueLike(x, "e(a[a[a[" + v + "]]],C).", 1);
+            dueLike(x, "e(a[a[z[" + v + "]]],C).", 0);
+            dueLike(x, "e(b[" + v + "],b[" + v + "]).", 0);
+        }
     }
 
     private static void byGoals() {
@@ -188,6 +208,19 @@ public final class EdgesOfQuestionsTest {
         dueLike(y, "k(s[s[X]]).", 2);
         dueLike(y, "g(s[s[s[1]]]).", 1);
         dueLike(y, "g(s[s[s[2]]]).", 0);
+        Stratahold z = Checks.with("e(1,2). f(2,3). e(X,Y):f(X,Y). e(X,Y):f(Y,X). g(X):e(X,Y).");
+        Checks.write(z, "e(X,Y).");
+        Checks.due("by goals at first", z.matchesByGoals(), 3);
+        dueLike(z, "f(X,Y).", 1);
+        dueLike(z, "g(X).", 3);
+        z.drop(2);
+        dueLike(z, "g(X).", 0);
+        z.drop(1);
+        dueLike(z, "e(X,Y).", 2);
+        Checks.withdraw(z, "e(1,2).");
+        dueLike(z, "e(X,Y).", 1);
+        Checks.withdraw(z, "f(2,3).");
+        dueLike(z, "e(X,Y).", 0);
     }
 
     private static void strataAndRounds() {
@@ -331,6 +364,13 @@ public final class EdgesOfQuestionsTest {
             due(x, "b(1).", 1, new int[] {1, 2, 3, 5, 8}[many], 3);
         }
         Checks.due("five of four", Checks.has(Checks.with(facts + "b(1):5*g(X)."), "b(1)."), false);
+        Stratahold back = Checks.with("z(4). c(3):z(4). c(2):c(3). c(1):c(2). c(X):z(X). b(1):1*c(X). b(2):2*c(X). b(3):3*c(X). b(4):4*c(X).");
+        due(back, "c(1).", 1, 4, 2);
+        due(back, "c(4).", 1, 2, 3);
+        due(back, "b(1).", 1, 1 + 2, 4);
+        due(back, "b(2).", 1, 1 + 2 + 2, 5);
+        due(back, "b(3).", 1, 1 + 2 + 2 + 3, 6);
+        due(back, "b(4).", 1, 1 + 2 + 2 + 3 + 4, 7);
         Stratahold y = Checks.with(facts + "j(1). j(2). j(4). b(X):j(X),1*g(X). c(X):j(X),2*g(Y).");
         due(y, "b(1).", 1, 3, 3);
         due(y, "b(4).", 1, 5, 3);

@@ -115,6 +115,11 @@ public final class EdgesOfTheModelTest {
         Checks.due("the last round of a chain", v.round(Checks.place(v, "n(30).")), 30);
         Checks.due("a fact in each", v.delta(0, 30), 1);
         Checks.due("none behind", v.delta(0, 31), 0);
+        Stratahold most = Checks.with("n(6). n(Y):n(X),Y~X+3.");
+        Checks.due("the last round that there can be", most.round(Checks.place(most, "n(99).")), 31);
+        for (int round = 0; round <= 100; round++) {
+            Checks.due("delta of the round " + round, most.delta(0, round), round <= 31 ? 1 : 0);
+        }
     }
 
     private static void strata() {
@@ -393,6 +398,14 @@ public final class EdgesOfTheModelTest {
             Stratahold y = Checks.with("k(0). k(1). k(2). k(3). ?a(X):k(X). ?b(X):k(X). v(N):a(X),b(Y),Z~4*X,N~Z+Y. :v(X),m(Y),X<Y.");
             dueFull(y, last <= 11 ? 0 : 8, "m(" + last + ").");
         }
+        Stratahold fewer = Checks.with("?c(X):a(X). ?d(X):k(X). k(1). k(2). m(12).");
+        for (int i = 1; i <= 12; i++) {
+            Checks.add(fewer, "a(" + i + ").");
+        }
+        fewer.drop(1);
+        dueFull(fewer, 0, ":c(X),m(Y),X<Y.");
+        Checks.due("the twelfth way", Checks.add(fewer, ":c(X),m(Y),X<Y."), 2);
+        Checks.due("what is chosen", Checks.has(fewer, "c(12)."), true);
         Stratahold z = Checks.with("?c(X):a(X). :c(X),m(Y),X<Y. m(3).");
         z.begin();
         for (int i = 1; i <= 3; i++) {
