@@ -9,6 +9,7 @@ public final class EdgesOfChangesTest {
 
     public static void main(String[] args) {
         newObject();
+        lastCall();
         signs();
         clearing();
         refusals();
@@ -54,6 +55,20 @@ public final class EdgesOfChangesTest {
             Checks.due("ticks until 1000", x.tick(5), 0);
         }
         Checks.dueThrow("the tick 1001", STATE, () -> x.tick(1));
+    }
+
+    private static void lastCall() {
+        Checks.says("An object is used for at most 512 calls after it has been made;");
+        Stratahold x = new Stratahold();
+        for (int round = 0; round < 64; round++) {
+            String text = "a(" + round % 10 + ").";
+            Checks.due("clearText", x.clearText(), round > 0 ? 5 : 0);
+            for (int i = 0; i < 5; i++) {
+                Checks.due("sign " + i, x.type(text.charAt(i)), i + 1);
+            }
+            Checks.due("add", x.add(round % 3), Math.min(round + 1, 10));
+            Checks.due("the call " + (8 * round + 8), x.matchesByGoals(), 1);
+        }
     }
 
     private static void signs() {
