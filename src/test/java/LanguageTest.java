@@ -28,6 +28,7 @@ public final class LanguageTest {
 
     public static void main(String[] args) throws IOException {
         face();
+        linesOfTheFace();
         classes();
         words();
         Checks.end();
@@ -44,6 +45,7 @@ public final class LanguageTest {
                 got.add(s.append(')').append(m.getReturnType().getSimpleName()).toString());
             } else {
                 Checks.due(m + " is private", Modifier.isPrivate(m.getModifiers()) || m.isSynthetic(), true);
+                Checks.due(m + " bears a name of the face", FACE.stream().anyMatch(f -> f.startsWith(m.getName() + "(")), false);
             }
         }
         Checks.due("the face is " + got, got.equals(new TreeSet<>(FACE)), true);
@@ -51,6 +53,8 @@ public final class LanguageTest {
         Checks.due("constructors", constructors.length, 1);
         Checks.due("without parameters", constructors[0].getParameterCount(), 0);
         Checks.due("it is public and final", Stratahold.class.getModifiers(), Modifier.PUBLIC | Modifier.FINAL);
+        Checks.due("fields", Arrays.stream(Stratahold.class.getDeclaredFields())
+                .filter(f -> !Modifier.isStatic(f.getModifiers())).count() <= 20, true);
         Set<String> constants = new TreeSet<>();
         for (Field f : Stratahold.class.getDeclaredFields()) {
             if (Modifier.isPublic(f.getModifiers())) {
@@ -60,6 +64,21 @@ public final class LanguageTest {
             }
         }
         Checks.due("constants " + constants, constants.equals(Set.of("NONE", "TOLD", "CHOSEN")), true);
+    }
+
+    /** Each line of the document's face stands in the program, with the exceptions in their order. */
+    private static void linesOfTheFace() throws IOException {
+        String document = Files.readString(Path.of("../shared/DOC.md"), StandardCharsets.UTF_8);
+        String source = Files.readString(Path.of("src/main/java/Stratahold.java"), StandardCharsets.ISO_8859_1);
+        int begin = document.indexOf("public final class Stratahold {");
+        int end = document.indexOf("\n}", Math.max(begin, 0));
+        Checks.due("the document shows the face", begin >= 0 && end > begin, true);
+        String[] lines = begin < 0 || end < begin ? new String[0] : document.substring(begin, end).split("\n");
+        for (String line : lines) {
+            String due = line.replace("java.util.", "").replaceAll("\\);$", ") {").replaceAll("Exception;$", "Exception {");
+            Checks.due("the line " + due, source.contains("\n" + due + "\n"), true);
+        }
+        Checks.due("lines of the face", lines.length, 1 + 2 + 1 + FACE.size());
     }
 
     private static void classes() {
